@@ -1,0 +1,48 @@
+/** Counts the answers of a test, prints those that are not the ones due, and ends it. */
+final class Due {
+    static final long NOTHING = 1099511627776L;
+    static final long NOBODY = 1099511627777L;
+
+    private int checked = 0;
+    private int wrong = 0;
+
+    void is(String call, long got, long want) {
+        checked++;
+        if (got != want) {
+            wrong++;
+            System.out.println(call + " answered " + got + ", due is " + want);
+        }
+    }
+
+    void is(String call, boolean got, boolean want) {
+        checked++;
+        if (got != want) {
+            wrong++;
+            System.out.println(call + " answered " + got + ", due is " + want);
+        }
+    }
+
+    /** That a map with an order has just these keys, in this order. */
+    void keys(String when, HashHall hall, int map, int... want) {
+        is(when + ": size of map " + map, hall.size(map), want.length);
+        for (int k = 0; k < want.length; k++) {
+            is(when + ": key " + k + " of map " + map, hall.entry(map, k, 0), want[k]);
+        }
+        is(when + ": key behind the last of map " + map, hall.entry(map, want.length, 0), NOTHING);
+    }
+
+    /** That a map with an order has just these values, in this order. */
+    void values(String when, HashHall hall, int map, int... want) {
+        is(when + ": size of map " + map, hall.size(map), want.length);
+        for (int k = 0; k < want.length; k++) {
+            is(when + ": value " + k + " of map " + map, hall.entry(map, k, 1), want[k]);
+        }
+    }
+
+    void end(String test) {
+        System.out.println(test + ": " + checked + " answers looked at, " + wrong + " wrong");
+        if (wrong != 0 || checked == 0) {
+            System.exit(1);
+        }
+    }
+}
