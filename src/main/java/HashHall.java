@@ -355,10 +355,13 @@ public final class HashHall {
         }
 
         private void insert(int key, int value) {
-            int slot = freeSlot();
-            if (slot == NONE) {
-                return;
+            if (count == keys.length - 1) {
+                if (keys.length >= LAST_LENGTH) {
+                    return;
+                }
+                grow();
             }
+            int slot = freeSlot();
             keys[slot] = key;
             values[slot] = value;
             hook(slot);
@@ -381,17 +384,12 @@ public final class HashHall {
             }
         }
 
+        /** Called only when the rows have room: then a slot was left, or one is still to be made. */
         private int freeSlot() {
             if (firstLeft != NONE) {
                 int slot = firstLeft;
                 firstLeft = chain[slot];
                 return slot;
-            }
-            if (lastMade == keys.length - 1) {
-                if (keys.length >= LAST_LENGTH) {
-                    return NONE;
-                }
-                grow();
             }
             lastMade++;
             return lastMade;
