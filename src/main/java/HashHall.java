@@ -207,8 +207,9 @@ public final class HashHall {
         }
 
         void storeAllOf(Table source) {
+            int coming = source.count;
             int slot = source.after[NONE];
-            for (int i = 0; i < source.count; i++) {
+            for (int i = 0; i < coming; i++) {
                 store(source.keys[slot], source.values[slot]);
                 slot = source.after[slot];
             }

@@ -1,3 +1,6 @@
+import java.util.function.Consumer;
+import java.util.function.ToLongFunction;
+
 /** Counts the answers of a test, prints those that are not the ones due, and ends it. */
 final class Due {
     static final long NOTHING = 1099511627776L;
@@ -20,6 +23,36 @@ final class Due {
             wrong++;
             System.out.println(call + " answered " + got + ", due is " + want);
         }
+    }
+
+    void is(String call, String got, String want) {
+        checked++;
+        if (!got.equals(want)) {
+            wrong++;
+            System.out.println(call + " left " + got + ", due is " + want);
+        }
+    }
+
+    /** That after a run of calls, this call answers so, and leaves all three maps as they were. */
+    void idle(String name, Consumer<HashHall> run, ToLongFunction<HashHall> call, long want) {
+        is(name, answer(run, call), want);
+        is(name, State.of(run.andThen(call::applyAsLong)), State.of(run));
+    }
+
+    /** That after a run of calls, this call answers so, and leaves the maps as State tells them. */
+    void leaves(String name, Consumer<HashHall> run, ToLongFunction<HashHall> call, long want, String state) {
+        is(name, answer(run, call), want);
+        is(name, State.of(run.andThen(call::applyAsLong)), state);
+    }
+
+    private static long answer(Consumer<HashHall> run, ToLongFunction<HashHall> call) {
+        HashHall hall = new HashHall();
+        run.accept(hall);
+        return call.applyAsLong(hall);
+    }
+
+    static long bit(boolean answer) {
+        return answer ? 1 : 0;
     }
 
     /** That a map with an order has just these keys, in this order. */

@@ -8,6 +8,7 @@ public final class LimitTest {
             farTooManyCalls(map);
         }
         keysThatLieAlike();
+        keysThatDifferInTheSignAlone();
         manyHalls();
         due.end("LimitTest");
     }
@@ -34,6 +35,7 @@ public final class LimitTest {
         return hall;
     }
 
+    /** What these calls answer is free; that they end and throw nothing is LANGUAGE.md's rule 7. */
     private static void farTooManyCalls(int map) {
         HashHall hall = new HashHall();
         for (int i = 0; i < 6000; i++) {
@@ -46,9 +48,7 @@ public final class LimitTest {
                 hall.sweep(map, 3, i % 3);
             }
         }
-        due.is("limit: a map still has entries", hall.size(map) > 0, true);
-        int size = hall.size(map);
-        due.is("limit: all entries go", hall.clear(map), size);
+        due.is("limit: a new hall after them", new HashHall().size(map), 0);
     }
 
     private static void keysThatLieAlike() {
@@ -60,6 +60,16 @@ public final class LimitTest {
                 due.is("limit: the first key", hall.has(map, 0, 5), true);
                 due.is("limit: the last key", hall.get(map, 5 + (399 << shift)), 399);
             }
+        }
+    }
+
+    private static void keysThatDifferInTheSignAlone() {
+        for (int map = 0; map < 3; map++) {
+            HashHall hall = new HashHall();
+            due.is("limit: 400 keys", hall.fill(map, 0, 1, 400), 400);
+            due.is("limit: 400 more", hall.fill(map, Integer.MIN_VALUE, 1, 400), 800);
+            due.is("limit: a key goes", hall.remove(map, 399), 399);
+            due.is("limit: its like stays", hall.get(map, Integer.MIN_VALUE + 399), 399);
         }
     }
 

@@ -1,8 +1,8 @@
 /** Promises 1 to 8: a new object, and the calls that are about one entry. */
 public final class OneEntryTest {
-    private static final int MIN = Integer.MIN_VALUE;
-    private static final int MAX = Integer.MAX_VALUE;
-    private static final int[] NO_MAPS = {-1, 3, 4, MIN, MAX};
+    private static final int MIN = Halls.MIN;
+    private static final int MAX = Halls.MAX;
+    private static final int[] NO_MAPS = Halls.NO_MAPS;
 
     private static final Due due = new Due();
 

@@ -1,8 +1,8 @@
 /** Promises 9 to 17: the calls that are about whole maps. */
 public final class WholeMapTest {
-    private static final int MIN = Integer.MIN_VALUE;
-    private static final int MAX = Integer.MAX_VALUE;
-    private static final int[] NO_MAPS = {-1, 3, 4, MIN, MAX};
+    private static final int MIN = Halls.MIN;
+    private static final int MAX = Halls.MAX;
+    private static final int[] NO_MAPS = Halls.NO_MAPS;
 
     private static final Due due = new Due();
 
@@ -30,13 +30,6 @@ public final class WholeMapTest {
     private static void putThree(HashHall hall, int map) {
         for (int key = 1; key <= 3; key++) {
             hall.put(map, key, 10 * key);
-        }
-    }
-
-    /** Keys first, first + 1, .. in fills as long as may be; no more than 1400. */
-    private static void putMany(HashHall hall, int map, int first, int n) {
-        for (int done = 0; done < n; done += 400) {
-            hall.fill(map, first + done, 1, Math.min(400, n - done));
         }
     }
 
@@ -80,10 +73,10 @@ public final class WholeMapTest {
             due.is("10: clear of no map", new HashHall().clear(map), -1);
         }
         HashHall hall = new HashHall();
-        putMany(hall, 1, 0, 900);
+        Halls.bring(hall, 1, 0, 900);
         hall.sweep(1, 2, 0);
         due.is("10: clear of many", hall.clear(1), 450);
-        putMany(hall, 1, 100, 800);
+        Halls.bring(hall, 1, 100, 800);
         due.is("10: many come again", hall.size(1), 800);
         due.is("10: the first of them", hall.entry(1, 0, 0), 100);
         due.is("10: the last of them", hall.entry(1, 799, 0), 899);
@@ -156,23 +149,23 @@ public final class WholeMapTest {
         int[][] ways = {{1, 2}, {2, 1}, {1, 0}, {2, 0}};
         for (int[] way : ways) {
             HashHall hall = new HashHall();
-            putMany(hall, way[0], 0, 900);
-            putMany(hall, way[1], 5000, 500);
+            Halls.bring(hall, way[0], 0, 900);
+            Halls.bring(hall, way[1], 5000, 500);
             due.is("11: 1400 together", hall.pour(way[0], way[1]), 1400);
             due.is("11: both have more", hall.pour(way[0], way[1]), -1);
             due.is("11: nothing is done", hall.size(way[1]), 1400);
 
             hall = new HashHall();
-            putMany(hall, way[0], 0, 900);
-            putMany(hall, way[1], 0, 501);
+            Halls.bring(hall, way[0], 0, 900);
+            Halls.bring(hall, way[1], 0, 501);
             hall.put(way[1], 0, 77);
             due.is("11: 1401 together, keys shared", hall.pour(way[0], way[1]), -1);
             due.is("11: nothing is done", hall.size(way[1]), 501);
             due.is("11: no value is changed", hall.get(way[1], 0), 77);
         }
         HashHall hall = new HashHall();
-        putMany(hall, 0, 0, 700);
-        putMany(hall, 1, 0, 700);
+        Halls.bring(hall, 0, 0, 700);
+        Halls.bring(hall, 1, 0, 700);
         due.is("11: 0 into 1, 1400 together", hall.pour(0, 1), 700);
         hall.put(1, -1, -1);
         due.is("11: 0 into 1, 1401 together", hall.pour(0, 1), -1);
